@@ -30,6 +30,7 @@ public final class LatticeWraps {
     private static final int WRAP_NOISE = 150;
 
     private static final int LANES = 25;
+    /** A row of 168 bytes fills the lanes 0 .. 20. */
     private static final int LAST_LANE_OF_ROW = 20;
 
     private static final int[] SAMPLE_BOUNDS = {
@@ -217,6 +218,7 @@ public final class LatticeWraps {
         private long s = 0L;
         private long mark = 0L;
         private final Matrix a = new Matrix(WIDE, WIDE);
+        /** S; the letter is the long's. */
         private final Matrix small = new Matrix(WIDE, NARROW);
         private final Matrix error = new Matrix(WIDE, NARROW);
         private final Matrix b = new Matrix(WIDE, NARROW);
@@ -277,11 +279,13 @@ public final class LatticeWraps {
     /** Where wraps are made and opened: all that is needed in between and not kept. */
     private static final class Desk {
         private final Shaker shaker = new Shaker();
+        /** S', E' and E''. */
         private final Matrix small = new Matrix(NARROW, WIDE);
         private final Matrix errorOfX = new Matrix(NARROW, WIDE);
         private final Matrix errorOfY = new Matrix(NARROW, NARROW);
         private final Matrix x = new Matrix(NARROW, WIDE);
         private final Matrix y = new Matrix(NARROW, NARROW);
+        /** M of the wrap that was opened last. */
         private final Matrix opened = new Matrix(NARROW, NARROW);
         private final int[] again = new int[WRAP_BYTES];
 

@@ -1,12 +1,13 @@
 import java.util.Random;
 
 /**
- * Long runs of drawn calls, each run on a new object and a new model: both must answer or throw
+ * Runs of drawn calls, each run on a new object and a new model: both must answer or throw
  * the same, call by call. The draws are always the same ones.
  */
 public final class ModelRunsTest {
-    private static final int RUNS = 60;
-    private static final int CALLS = 512;
+    private static final int RUNS = 200;
+    /** Together with the looks at a place, at a run's end, these stay within 512 calls. */
+    private static final int CALLS = 150;
     private static final int[] ODD_NUMBERS = {
         -1, 0, 1, 2, 3, 4, 5, 7, 8, 9, 59, 60, 67, 68, 89, 90, 255, 256,
         Integer.MIN_VALUE, Integer.MAX_VALUE
@@ -23,7 +24,7 @@ public final class ModelRunsTest {
             for (int call = 0; call < CALLS; call++) {
                 test.drawCall("run " + run + ", call " + call + ": ", program, model);
             }
-            test.compareAll("run " + run + ", at its end: ", program, model);
+            test.comparePlace("run " + run + ", at its end: ", program, model, run % 4);
         }
         test.checks.end("ModelRunsTest");
     }
@@ -116,23 +117,26 @@ public final class ModelRunsTest {
         }
     }
 
-    /** Looks at all that can be seen of the state. */
-    private void compareAll(String where, LatticeWraps program, Model model) {
-        for (int place = 0; place < 4; place++) {
-            int p = place;
-            for (int at = 0; at < 90; at++) {
-                int i = at;
-                same(where + "wrapByte(" + p + ", " + i + ")",
-                        () -> program.wrapByte(p, i), () -> model.wrapByte(p, i));
-                same(where + "publicByte(" + p + ", " + i + ")",
-                        () -> program.publicByte(p, i), () -> model.publicByte(p, i));
-            }
-            for (int at = 0; at < 4 * 8 * 8; at++) {
-                int which = at / 64;
-                int i = at / 8 % 8;
-                int j = at % 8;
-                same(where + "entry(" + p + ", " + which + ", " + i + ", " + j + ")",
-                        () -> program.entry(p, which, i, j), () -> model.entry(p, which, i, j));
+    /** Looks at all that can be seen of the key and the wrap in a place. */
+    private void comparePlace(String where, LatticeWraps program, Model model, int p) {
+        for (int at = 0; at <= 90; at++) {
+            int i = at;
+            same(where + "wrapByte(" + p + ", " + i + ")",
+                    () -> program.wrapByte(p, i), () -> model.wrapByte(p, i));
+        }
+        for (int at = 0; at <= 68; at++) {
+            int i = at;
+            same(where + "publicByte(" + p + ", " + i + ")",
+                    () -> program.publicByte(p, i), () -> model.publicByte(p, i));
+        }
+        for (int which = 0; which < 4; which++) {
+            int columns = which == 0 ? 8 : 4;
+            for (int at = 0; at < 8 * columns; at++) {
+                int w = which;
+                int i = at / columns;
+                int j = at % columns;
+                same(where + "entry(" + p + ", " + w + ", " + i + ", " + j + ")",
+                        () -> program.entry(p, w, i, j), () -> model.entry(p, w, i, j));
             }
         }
     }

@@ -3,7 +3,7 @@ import java.util.NoSuchElementException;
 /**
  * Promise by promise: ordinary answers, the edges that the document names, wrong inputs and the
  * order of refusals. The answers written out here come from a third reckoning, with the SHAKE128
- * of another library.
+ * of another library. No object is used for more than its 512 calls.
  */
 public final class PromisesTest {
     private static final Class<IllegalArgumentException> ILLEGAL = IllegalArgumentException.class;
@@ -37,6 +37,7 @@ public final class PromisesTest {
         test.promise4UnwrapEveryChangedBit();
         test.promise5Change();
         test.promise6Copy();
+        test.promise6CopyInsteadOfAnother();
         test.promise7Forget();
         test.promise8WrapByte();
         test.promise9PublicByte();
@@ -190,11 +191,14 @@ public final class PromisesTest {
     }
 
     private void promise4UnwrapEveryChangedBit() {
-        LatticeWraps program = withWrap();
         Model model = new Model();
         model.make(1, 11L, -22L, 33L);
         model.wrap(2, 1, M);
+        LatticeWraps program = withWrap();
         for (int bit = 0; bit < 8 * 90; bit++) {
+            if (bit % 80 == 0) {
+                program = withWrap();
+            }
             program.change(2, bit / 8, 1 << bit % 8);
             model.change(2, bit / 8, 1 << bit % 8);
             long secret = program.unwrap(2, 1);
@@ -240,6 +244,12 @@ public final class PromisesTest {
         checks.due("a changed first leaves the copy", wrapRow(program, 3), WRAP_ROW);
         program.forget(false, 2);
         checks.due("a forgotten first leaves the copy", program.unwrap(3, 1), SECRET);
+    }
+
+    private void promise6CopyInsteadOfAnother() {
+        LatticeWraps program = withKey();
+        program.wrap(3, 1, M);
+        program.wrap(0, 1, ~M);
         program.copy(3, 0);
         checks.due("copy instead of another", wrapRow(program, 0), WRAP_ROW);
         program.copy(3, 3);
@@ -357,8 +367,8 @@ public final class PromisesTest {
             {20479, 2, 4095}, {20480, 3, -4096}, {24576, 3, 0},
             {28671, 3, 4095}, {28672, 0, -4096}
         };
-        LatticeWraps program = withWrap();
         for (int[] row : due) {
+            LatticeWraps program = withWrap();
             setFirstOfM(program, row[0]);
             checks.due("read at " + row[0], program.read(2, 1), (M & ~3) | row[1]);
             checks.due("noise at " + row[0], program.noise(2, 1, 0, 0), row[2]);
