@@ -9,18 +9,6 @@ public final class PromisesTest {
     private static final Class<IllegalArgumentException> ILLEGAL = IllegalArgumentException.class;
     private static final Class<NoSuchElementException> MISSING = NoSuchElementException.class;
     private static final Class<IndexOutOfBoundsException> OUTSIDE = IndexOutOfBoundsException.class;
-    private static final int[] NO_PLACES = {-1, 4, Integer.MIN_VALUE, Integer.MAX_VALUE};
-
-    private static final long MARK = -808506429973808010L;
-    private static final String PUBLIC_ROW =
-            "ada380b86935e7912aac98c283ff0b88c1da3188119dbc6e78baa20a54d84759ae0c"
-            + "a718f04a3bb6dfbc654fb2d536de8c01b787310f36cc9f17f0e388fd30c0994fdecb";
-    private static final int M = 0x12345678;
-    private static final long SECRET = -392772433412535973L;
-    private static final String WRAP_ROW =
-            "a4adb78a4d3bf8e67d2fa9d6d4131c3a11143000c980775adee2087821774c4f439ba247a61297f3b534f6c0"
-            + "f59e294c29ada2e61bb7a545991f932bba17db3fe25df396122b216c3ef3f4506a4c1611c32bc6e60ebfe23a"
-            + "d8f3";
     private static final int[][] NOISE = {
         {-34, 21, 30, -6}, {-7, -8, 31, 33}, {-14, 28, -8, -3}, {7, 4, 25, -12}
     };
@@ -50,41 +38,6 @@ public final class PromisesTest {
         test.checks.end("PromisesTest");
     }
 
-    /** A key in place 1. */
-    private static LatticeWraps withKey() {
-        LatticeWraps program = new LatticeWraps();
-        program.make(1, 11L, -22L, 33L);
-        return program;
-    }
-
-    /** A key in place 1 and a wrap in place 2. */
-    private static LatticeWraps withWrap() {
-        LatticeWraps program = withKey();
-        program.wrap(2, 1, M);
-        return program;
-    }
-
-    private static long copied(LatticeWraps program, int from, int to) {
-        program.copy(from, to);
-        return 0;
-    }
-
-    private static String wrapRow(LatticeWraps program, int wrap) {
-        StringBuilder row = new StringBuilder();
-        for (int i = 0; i < 90; i++) {
-            row.append(String.format("%02x", program.wrapByte(wrap, i)));
-        }
-        return row.toString();
-    }
-
-    private static String publicRow(LatticeWraps program, int key) {
-        StringBuilder row = new StringBuilder();
-        for (int i = 0; i < 68; i++) {
-            row.append(String.format("%02x", program.publicByte(key, i)));
-        }
-        return row.toString();
-    }
-
     private void promise1NewObject() {
         LatticeWraps program = new LatticeWraps();
         for (int place = 0; place < 4; place++) {
@@ -92,21 +45,21 @@ public final class PromisesTest {
             checks.refused("new: wrapByte", MISSING, () -> program.wrapByte(p, 0));
             checks.refused("new: publicByte", MISSING, () -> program.publicByte(p, 0));
             checks.refused("new: wrap", MISSING, () -> program.wrap(0, p, 0));
-            checks.refused("new: copy", MISSING, () -> copied(program, p, 0));
+            checks.refused("new: copy", MISSING, () -> Given.copied(program, p, 0));
             checks.due("new: forget a key", program.forget(true, p) ? 1 : 0, 0);
             checks.due("new: forget a wrap", program.forget(false, p) ? 1 : 0, 0);
         }
-        LatticeWraps used = withWrap();
+        LatticeWraps used = Given.withWrap();
         LatticeWraps other = new LatticeWraps();
         checks.refused("new beside a used one: read", MISSING, () -> other.read(2, 1));
-        checks.due("used beside a new one: read", used.read(2, 1), M);
+        checks.due("used beside a new one: read", used.read(2, 1), Given.M);
     }
 
     private void promise2Make() {
         for (int place = 0; place < 4; place++) {
             LatticeWraps program = new LatticeWraps();
-            checks.due("make: the mark", program.make(place, 11L, -22L, 33L), MARK);
-            checks.due("make: the public row", publicRow(program, place), PUBLIC_ROW);
+            checks.due("make: the mark", program.make(place, 11L, -22L, 33L), Given.MARK);
+            checks.due("make: the public row", Given.publicRow(program, place), Given.PUBLIC_ROW);
             for (int other = 0; other < 4; other++) {
                 int p = other;
                 if (p != place) {
@@ -117,8 +70,8 @@ public final class PromisesTest {
         LatticeWraps program = new LatticeWraps();
         checks.due("make of the farthest longs",
                 program.make(0, Long.MIN_VALUE, Long.MAX_VALUE, 0L), 4161546495015003436L);
-        checks.due("make: s is not in the mark", program.make(3, -5L, -22L, 33L), MARK);
-        for (int place : NO_PLACES) {
+        checks.due("make: s is not in the mark", program.make(3, -5L, -22L, 33L), Given.MARK);
+        for (int place : Given.NO_PLACES) {
             checks.refused("make in no place", ILLEGAL, () -> program.make(place, 1L, 2L, 3L));
         }
     }
@@ -127,9 +80,9 @@ public final class PromisesTest {
         LatticeWraps program = new LatticeWraps();
         program.make(1, 5L, 6L, 7L);
         program.wrap(0, 1, 99);
-        checks.due("make instead of another", program.make(1, 11L, -22L, 33L), MARK);
-        checks.due("its public row", publicRow(program, 1), PUBLIC_ROW);
-        checks.due("its wrap", program.wrap(2, 1, M), SECRET);
+        checks.due("make instead of another", program.make(1, 11L, -22L, 33L), Given.MARK);
+        checks.due("its public row", Given.publicRow(program, 1), Given.PUBLIC_ROW);
+        checks.due("its wrap", program.wrap(2, 1, Given.M), Given.SECRET);
         program.change(2, 0, 1);
         checks.due("its s", program.unwrap(2, 1), 7871650760051221841L);
         program.make(1, 5L, 6L, 7L);
@@ -137,32 +90,33 @@ public final class PromisesTest {
     }
 
     private void promise3Wrap() {
-        int[] messages = {0, -1, M, Integer.MIN_VALUE, Integer.MAX_VALUE};
+        int[] messages = {0, -1, Given.M, Integer.MIN_VALUE, Integer.MAX_VALUE};
         long[] secrets = {
-            -2855496946633060799L, -8208536951575716643L, SECRET,
+            -2855496946633060799L, -8208536951575716643L, Given.SECRET,
             8545663164194810712L, -6181423973761193229L
         };
-        LatticeWraps program = withKey();
+        LatticeWraps program = Given.withKey();
         for (int k = 0; k < messages.length; k++) {
             int wrap = k % 4;
             checks.due("wrap " + messages[k], program.wrap(wrap, 1, messages[k]), secrets[k]);
             checks.due("wrap, read", program.read(wrap, 1), messages[k]);
         }
-        checks.due("wrap instead of another", program.wrap(0, 1, M), SECRET);
-        checks.due("the wrap", wrapRow(program, 0), WRAP_ROW);
-        for (int place : NO_PLACES) {
-            checks.refused("wrap in no place", ILLEGAL, () -> program.wrap(place, 1, M));
-            checks.refused("wrap for no place", ILLEGAL, () -> program.wrap(0, place, M));
-            checks.refused("wrap in no place, no key", ILLEGAL, () -> program.wrap(place, 0, M));
+        checks.due("wrap instead of another", program.wrap(0, 1, Given.M), Given.SECRET);
+        checks.due("the wrap", Given.wrapRow(program, 0), Given.WRAP_ROW);
+        for (int place : Given.NO_PLACES) {
+            checks.refused("wrap in no place", ILLEGAL, () -> program.wrap(place, 1, Given.M));
+            checks.refused("wrap for no place", ILLEGAL, () -> program.wrap(0, place, Given.M));
+            checks.refused("wrap in no place, no key", ILLEGAL,
+                    () -> program.wrap(place, 0, Given.M));
         }
-        checks.refused("wrap for an empty place", MISSING, () -> program.wrap(0, 0, M));
+        checks.refused("wrap for an empty place", MISSING, () -> program.wrap(0, 0, Given.M));
     }
 
     private void promise4Unwrap() {
-        LatticeWraps program = withWrap();
-        checks.due("unwrap", program.unwrap(2, 1), SECRET);
-        checks.due("unwrap again", program.unwrap(2, 1), SECRET);
-        checks.due("unwrap leaves the wrap", wrapRow(program, 2), WRAP_ROW);
+        LatticeWraps program = Given.withWrap();
+        checks.due("unwrap", program.unwrap(2, 1), Given.SECRET);
+        checks.due("unwrap again", program.unwrap(2, 1), Given.SECRET);
+        checks.due("unwrap leaves the wrap", Given.wrapRow(program, 2), Given.WRAP_ROW);
         program.make(0, Long.MIN_VALUE, Long.MAX_VALUE, 0L);
         checks.due("unwrap with another key", program.unwrap(2, 0), 4443801961122494189L);
         program.change(2, 0, 1);
@@ -171,15 +125,15 @@ public final class PromisesTest {
         program.change(2, 89, 1);
         checks.due("unwrap, last byte changed", program.unwrap(2, 1), 7782265679382268434L);
         program.change(2, 89, 1);
-        checks.due("unwrap, changed back", program.unwrap(2, 1), SECRET);
+        checks.due("unwrap, changed back", program.unwrap(2, 1), Given.SECRET);
         program.make(3, 12L, -22L, 33L);
-        checks.due("unwrap, another s", program.unwrap(2, 3), SECRET);
+        checks.due("unwrap, another s", program.unwrap(2, 3), Given.SECRET);
         unwrapRefusals(program);
     }
 
     private void unwrapRefusals(LatticeWraps program) {
         program.forget(true, 2);
-        for (int place : NO_PLACES) {
+        for (int place : Given.NO_PLACES) {
             checks.refused("unwrap no place", ILLEGAL, () -> program.unwrap(place, 1));
             checks.refused("unwrap with no place", ILLEGAL, () -> program.unwrap(2, place));
             checks.refused("unwrap no place, no key", ILLEGAL, () -> program.unwrap(place, 2));
@@ -193,24 +147,24 @@ public final class PromisesTest {
     private void promise4UnwrapEveryChangedBit() {
         Model model = new Model();
         model.make(1, 11L, -22L, 33L);
-        model.wrap(2, 1, M);
-        LatticeWraps program = withWrap();
+        model.wrap(2, 1, Given.M);
+        LatticeWraps program = Given.withWrap();
         for (int bit = 0; bit < 8 * 90; bit++) {
             if (bit % 80 == 0) {
-                program = withWrap();
+                program = Given.withWrap();
             }
             program.change(2, bit / 8, 1 << bit % 8);
             model.change(2, bit / 8, 1 << bit % 8);
             long secret = program.unwrap(2, 1);
             checks.due("unwrap, bit " + bit + " changed", secret, model.unwrap(2, 1));
-            checks.due("that is not the secret", secret == SECRET ? 1 : 0, 0);
+            checks.due("that is not the secret", secret == Given.SECRET ? 1 : 0, 0);
             program.change(2, bit / 8, 1 << bit % 8);
             model.change(2, bit / 8, 1 << bit % 8);
         }
     }
 
     private void promise5Change() {
-        LatticeWraps program = withWrap();
+        LatticeWraps program = Given.withWrap();
         int first = 0xa4;
         int last = 0xf3;
         checks.due("change the first byte", program.change(2, 0, 0x0f), first ^ 0x0f);
@@ -220,9 +174,9 @@ public final class PromisesTest {
         checks.due("change by 256", program.change(2, 89, 256), last);
         checks.due("change by 0x7fffff80", program.change(2, 89, 0x7fffff80), last ^ 0x80);
         checks.due("change by the least int", program.change(2, 0, Integer.MIN_VALUE), first ^ 15);
-        checks.due("change nothing else", wrapRow(program, 2).substring(2, 178),
-                WRAP_ROW.substring(2, 178));
-        for (int place : NO_PLACES) {
+        checks.due("change nothing else", Given.wrapRow(program, 2).substring(2, 178),
+                Given.WRAP_ROW.substring(2, 178));
+        for (int place : Given.NO_PLACES) {
             checks.refused("change in no place", ILLEGAL, () -> program.change(place, 90, 1));
         }
         checks.refused("change in an empty place", MISSING, () -> program.change(0, -1, 1));
@@ -233,63 +187,64 @@ public final class PromisesTest {
     }
 
     private void promise6Copy() {
-        LatticeWraps program = withWrap();
+        LatticeWraps program = Given.withWrap();
         program.copy(2, 0);
-        checks.due("copy", wrapRow(program, 0), WRAP_ROW);
-        checks.due("copy leaves the first", wrapRow(program, 2), WRAP_ROW);
+        checks.due("copy", Given.wrapRow(program, 0), Given.WRAP_ROW);
+        checks.due("copy leaves the first", Given.wrapRow(program, 2), Given.WRAP_ROW);
         program.change(0, 7, 3);
-        checks.due("a changed copy leaves the first", wrapRow(program, 2), WRAP_ROW);
+        checks.due("a changed copy leaves the first", Given.wrapRow(program, 2), Given.WRAP_ROW);
         program.copy(2, 3);
         program.change(2, 7, 3);
-        checks.due("a changed first leaves the copy", wrapRow(program, 3), WRAP_ROW);
+        checks.due("a changed first leaves the copy", Given.wrapRow(program, 3), Given.WRAP_ROW);
         program.forget(false, 2);
-        checks.due("a forgotten first leaves the copy", program.unwrap(3, 1), SECRET);
+        checks.due("a forgotten first leaves the copy", program.unwrap(3, 1), Given.SECRET);
     }
 
     private void promise6CopyInsteadOfAnother() {
-        LatticeWraps program = withKey();
-        program.wrap(3, 1, M);
-        program.wrap(0, 1, ~M);
+        LatticeWraps program = Given.withKey();
+        program.wrap(3, 1, Given.M);
+        program.wrap(0, 1, ~Given.M);
         program.copy(3, 0);
-        checks.due("copy instead of another", wrapRow(program, 0), WRAP_ROW);
+        checks.due("copy instead of another", Given.wrapRow(program, 0), Given.WRAP_ROW);
         program.copy(3, 3);
-        checks.due("copy to itself", wrapRow(program, 3), WRAP_ROW);
-        for (int place : NO_PLACES) {
-            checks.refused("copy from no place", ILLEGAL, () -> copied(program, place, 0));
-            checks.refused("copy to no place", ILLEGAL, () -> copied(program, 3, place));
-            checks.refused("copy nothing to no place", ILLEGAL, () -> copied(program, 1, place));
+        checks.due("copy to itself", Given.wrapRow(program, 3), Given.WRAP_ROW);
+        for (int place : Given.NO_PLACES) {
+            checks.refused("copy from no place", ILLEGAL, () -> Given.copied(program, place, 0));
+            checks.refused("copy to no place", ILLEGAL, () -> Given.copied(program, 3, place));
+            checks.refused("copy nothing to no place", ILLEGAL,
+                    () -> Given.copied(program, 1, place));
         }
-        checks.refused("copy nothing", MISSING, () -> copied(program, 1, 3));
-        checks.refused("copy nothing to itself", MISSING, () -> copied(program, 1, 1));
-        checks.due("copy nothing empties nothing", wrapRow(program, 3), WRAP_ROW);
+        checks.refused("copy nothing", MISSING, () -> Given.copied(program, 1, 3));
+        checks.refused("copy nothing to itself", MISSING, () -> Given.copied(program, 1, 1));
+        checks.due("copy nothing empties nothing", Given.wrapRow(program, 3), Given.WRAP_ROW);
     }
 
     private void promise7Forget() {
-        LatticeWraps program = withWrap();
+        LatticeWraps program = Given.withWrap();
         program.make(2, 1L, 2L, 3L);
         program.copy(2, 1);
         checks.due("forget a key", program.forget(true, 2) ? 1 : 0, 1);
         checks.due("forget it again", program.forget(true, 2) ? 1 : 0, 0);
         checks.refused("it is forgotten", MISSING, () -> program.publicByte(2, 0));
-        checks.due("the wrap of that number is not", wrapRow(program, 2), WRAP_ROW);
+        checks.due("the wrap of that number is not", Given.wrapRow(program, 2), Given.WRAP_ROW);
         checks.due("forget a wrap", program.forget(false, 1) ? 1 : 0, 1);
         checks.due("forget it again", program.forget(false, 1) ? 1 : 0, 0);
         checks.refused("it is forgotten", MISSING, () -> program.wrapByte(1, 0));
-        checks.due("the key of that number is not", publicRow(program, 1), PUBLIC_ROW);
+        checks.due("the key of that number is not", Given.publicRow(program, 1), Given.PUBLIC_ROW);
         checks.due("forget a wrap's key", program.forget(true, 1) ? 1 : 0, 1);
-        checks.due("the wrap is there", wrapRow(program, 2), WRAP_ROW);
+        checks.due("the wrap is there", Given.wrapRow(program, 2), Given.WRAP_ROW);
         program.make(1, 11L, -22L, 33L);
-        checks.due("the key made again unwraps", program.unwrap(2, 1), SECRET);
-        for (int place : NO_PLACES) {
+        checks.due("the key made again unwraps", program.unwrap(2, 1), Given.SECRET);
+        for (int place : Given.NO_PLACES) {
             checks.refused("forget no key", ILLEGAL, () -> program.forget(true, place) ? 1 : 0);
             checks.refused("forget no wrap", ILLEGAL, () -> program.forget(false, place) ? 1 : 0);
         }
     }
 
     private void promise8WrapByte() {
-        LatticeWraps program = withWrap();
-        checks.due("wrapByte, all", wrapRow(program, 2), WRAP_ROW);
-        for (int place : NO_PLACES) {
+        LatticeWraps program = Given.withWrap();
+        checks.due("wrapByte, all", Given.wrapRow(program, 2), Given.WRAP_ROW);
+        for (int place : Given.NO_PLACES) {
             checks.refused("wrapByte in no place", ILLEGAL, () -> program.wrapByte(place, -1));
         }
         checks.refused("wrapByte in an empty place", MISSING, () -> program.wrapByte(1, 90));
@@ -299,9 +254,9 @@ public final class PromisesTest {
     }
 
     private void promise9PublicByte() {
-        LatticeWraps program = withWrap();
-        checks.due("publicByte, all", publicRow(program, 1), PUBLIC_ROW);
-        for (int place : NO_PLACES) {
+        LatticeWraps program = Given.withWrap();
+        checks.due("publicByte, all", Given.publicRow(program, 1), Given.PUBLIC_ROW);
+        for (int place : Given.NO_PLACES) {
             checks.refused("publicByte in no place", ILLEGAL, () -> program.publicByte(place, -1));
         }
         checks.refused("publicByte in an empty place", MISSING, () -> program.publicByte(2, 68));
@@ -311,7 +266,7 @@ public final class PromisesTest {
     }
 
     private void promise10Entry() {
-        LatticeWraps program = withKey();
+        LatticeWraps program = Given.withKey();
         int[][] due = {
             {0, 0, 0, 4729}, {0, 0, 7, 8255}, {0, 7, 0, 12057}, {0, 7, 7, 31523}, {0, 4, 5, 1800},
             {1, 0, 0, 32766}, {1, 0, 3, 2}, {1, 7, 0, 0}, {1, 7, 3, 1}, {1, 4, 2, 6},
@@ -332,7 +287,7 @@ public final class PromisesTest {
                     () -> program.entry(1, w, Integer.MIN_VALUE, Integer.MAX_VALUE));
             checks.refused("entry in an empty place", MISSING, () -> program.entry(0, w, 8, 8));
         }
-        for (int none : NO_PLACES) {
+        for (int none : Given.NO_PLACES) {
             checks.refused("entry in no place", ILLEGAL, () -> program.entry(none, 0, 0, 0));
             checks.refused("entry of no matrix", ILLEGAL, () -> program.entry(1, none, 0, 0));
             checks.refused("entry of no matrix, empty", ILLEGAL,
@@ -341,14 +296,14 @@ public final class PromisesTest {
     }
 
     private void promise11Noise() {
-        LatticeWraps program = withWrap();
+        LatticeWraps program = Given.withWrap();
         for (int i = 0; i < 4; i++) {
             for (int j = 0; j < 4; j++) {
                 checks.due("noise", program.noise(2, 1, i, j), NOISE[i][j]);
             }
         }
-        checks.due("noise leaves the wrap", wrapRow(program, 2), WRAP_ROW);
-        for (int none : NO_PLACES) {
+        checks.due("noise leaves the wrap", Given.wrapRow(program, 2), Given.WRAP_ROW);
+        for (int none : Given.NO_PLACES) {
             checks.refused("noise in no place", ILLEGAL, () -> program.noise(none, 0, 4, 4));
             checks.refused("noise by no place", ILLEGAL, () -> program.noise(0, none, 4, 4));
             checks.refused("noise, no row", OUTSIDE, () -> program.noise(2, 1, none, 0));
@@ -368,9 +323,9 @@ public final class PromisesTest {
             {28671, 3, 4095}, {28672, 0, -4096}
         };
         for (int[] row : due) {
-            LatticeWraps program = withWrap();
+            LatticeWraps program = Given.withWrap();
             setFirstOfM(program, row[0]);
-            checks.due("read at " + row[0], program.read(2, 1), (M & ~3) | row[1]);
+            checks.due("read at " + row[0], program.read(2, 1), (Given.M & ~3) | row[1]);
             checks.due("noise at " + row[0], program.noise(2, 1, 0, 0), row[2]);
             checks.due("noise beside it", program.noise(2, 1, 0, 1), NOISE[0][1]);
         }
@@ -391,14 +346,15 @@ public final class PromisesTest {
     }
 
     private void promise12Read() {
-        LatticeWraps program = withWrap();
-        checks.due("read", program.read(2, 1), M);
+        LatticeWraps program = Given.withWrap();
+        checks.due("read", program.read(2, 1), Given.M);
         program.make(0, Long.MIN_VALUE, Long.MAX_VALUE, 0L);
         checks.due("read with another key", program.read(2, 0), -601360770);
         program.change(2, 0, 1);
-        checks.due("read, a small change", program.read(2, 1), M);
-        checks.due("read leaves the rest", wrapRow(program, 2).substring(2), WRAP_ROW.substring(2));
-        for (int none : NO_PLACES) {
+        checks.due("read, a small change", program.read(2, 1), Given.M);
+        checks.due("read leaves the rest", Given.wrapRow(program, 2).substring(2),
+                Given.WRAP_ROW.substring(2));
+        for (int none : Given.NO_PLACES) {
             checks.refused("read in no place", ILLEGAL, () -> program.read(none, 2));
             checks.refused("read by no place", ILLEGAL, () -> program.read(0, none));
         }
@@ -425,24 +381,25 @@ public final class PromisesTest {
     }
 
     private void callsThatThrowChangeNothing() {
-        LatticeWraps program = withWrap();
+        LatticeWraps program = Given.withWrap();
         Checks.outcome(() -> program.make(4, 1L, 2L, 3L));
         Checks.outcome(() -> program.wrap(2, 0, 5));
         Checks.outcome(() -> program.wrap(0, 0, 5));
         Checks.outcome(() -> program.wrap(2, 4, 5));
-        Checks.outcome(() -> copied(program, 0, 2));
-        Checks.outcome(() -> copied(program, 2, 4));
+        Checks.outcome(() -> Given.copied(program, 0, 2));
+        Checks.outcome(() -> Given.copied(program, 2, 4));
         Checks.outcome(() -> program.change(2, 90, 1));
         Checks.outcome(() -> program.forget(false, 4) ? 1 : 0);
-        checks.due("refused calls leave the wrap", wrapRow(program, 2), WRAP_ROW);
-        checks.due("refused calls leave the key", publicRow(program, 1), PUBLIC_ROW);
+        checks.due("refused calls leave the wrap", Given.wrapRow(program, 2), Given.WRAP_ROW);
+        checks.due("refused calls leave the key", Given.publicRow(program, 1), Given.PUBLIC_ROW);
         for (int place = 0; place < 4; place++) {
             int p = place;
             if (p != 2) {
                 checks.refused("refused calls fill no wrap", MISSING, () -> program.wrapByte(p, 0));
             }
             if (p != 1) {
-                checks.refused("refused calls fill no key", MISSING, () -> program.publicByte(p, 0));
+                checks.refused("refused calls fill no key", MISSING,
+                        () -> program.publicByte(p, 0));
             }
         }
     }
