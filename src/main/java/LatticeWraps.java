@@ -524,7 +524,8 @@ public final class LatticeWraps {
 
         private void mixColumns() {
             for (int x = 0; x < 5; x++) {
-                columns[x] = lanes[x] ^ lanes[x + 5] ^ lanes[x + 10] ^ lanes[x + 15] ^ lanes[x + 20];
+                columns[x] = lanes[x] ^ lanes[x + 5] ^ lanes[x + 10] ^ lanes[x + 15]
+                        ^ lanes[x + 20];
             }
             for (int x = 0; x < 5; x++) {
                 long mixed = columns[(x + 4) % 5] ^ turned(columns[(x + 1) % 5], 1);
